@@ -9,7 +9,7 @@ final class RandomRunsTest {
             + "dowry silt wed part season heir brook proud clear salt not and or flow fall near dig a b c dd "
             + "toolongword eightsig ( ) < = + - * ; 0 1 5 9 10 11 50 99 100 999 1000 9999 10000 ! A . ~").split(" ");
     private static final String[] NAMES = "a bb c flow near dd eeeeeeee f gh".split(" ");
-    private static final String[] KINDS = "brook brook brook proud clear clear salt".split(" ");
+    private static final String[] KINDS = "brook brook brook brook proud proud clear clear brook salt".split(" ");
 
     private static int wrong = 0;
     private static long calls = 0;
@@ -19,6 +19,9 @@ final class RandomRunsTest {
     private final RiverVows is = new RiverVows();
     private final Plain due = new Plain();
     private final StringBuilder story = new StringBuilder();
+    private int firstName;
+    private boolean easy;
+    private boolean coarse;
 
     private RandomRunsTest(int run) {
         this.run = run;
@@ -66,20 +69,22 @@ final class RandomRunsTest {
     }
 
     private void step(int i) {
-        int sort = i == 0 ? 0 : below(40);
-        if (sort == 0 || i > 0 && oneIn(60)) {
-            tell(landText());
-            same("land()", is.land(), due.land());
+        int sort = i == 0 ? 0 : between(1, 40);
+        if (sort == 0 || oneIn(80)) {
+            for (int tries = 0; tries < 4 && (tries == 0 || due.count(0) == 0); tries++) {
+                tell(landText());
+                same("land()", is.land(), due.land());
+            }
         } else if (sort == 1) {
             tell(vowsText());
             same("vows()", is.vows(), due.vows());
         } else if (sort == 2) {
             tell(willText());
             same("will()", is.will(), due.will());
-        } else if (sort == 3) {
+        } else if (sort == 3 && oneIn(3)) {
             tell(nonsense());
             same("land()", is.land(), due.land());
-        } else if (sort < 14) {
+        } else if (sort < 16) {
             deed();
         } else {
             question(below(26));
@@ -108,7 +113,8 @@ final class RandomRunsTest {
         int times = 1 + below(2);
         for (int i = 0; i < times; i++) {
             int at = below(parts.length);
-            switch (below(3)) {
+            switch (below(6)) {
+                case 3, 4, 5 -> parts[at] = spoiledPart(parts[at]);
                 case 0 -> parts[at] = WORDS[below(WORDS.length)];
                 case 1 -> parts[at] = "";
                 default -> parts[at] = parts[at] + " " + WORDS[below(WORDS.length)];
@@ -118,14 +124,25 @@ final class RandomRunsTest {
         return oneIn(6) ? joined.substring(0, below(joined.length() + 1)) : joined;
     }
 
+    /** A number for a number, a name for a name. */
+    private String spoiledPart(String part) {
+        if (part.matches("[0-9]+")) {
+            int[] edges = {0, 1, 9, 10, 11, 98, 99, 100, 999, 1000, 9999};
+            return String.valueOf(edges[below(edges.length)]);
+        }
+        return part.matches("[a-z]{1,3}") ? NAMES[below(NAMES.length)] : part;
+    }
+
     private String landText() {
         StringBuilder text = new StringBuilder();
         int rivers = oneIn(12) ? below(8) : between(2, 6);
-        boolean level = oneIn(3);
+        boolean level = oneIn(2);
         int wet = oneIn(3) ? 99 : 25;
-        int firstName = below(2);
+        firstName = oneIn(3) ? 1 : 0;
+        easy = oneIn(2);
+        coarse = oneIn(2);
         for (int i = 0; i < rivers; i++) {
-            text.append(riverText(i, firstName, level, wet));
+            text.append(riverText(i, level, wet));
             if (oneIn(3)) {
                 text.append(rangeText());
             }
@@ -148,21 +165,23 @@ final class RandomRunsTest {
         return spoiled(text.toString());
     }
 
-    private String riverText(int number, int firstName, boolean level, int wet) {
+    private String riverText(int number, boolean level, int wet) {
         int from = level ? between(40, 99) : between(1, 99);
         int to = level ? 10 + 5 * below(2) : below(from);
         StringBuilder text = new StringBuilder();
         text.append("river ").append(NAMES[number + firstName]).append(' ').append(KINDS[below(KINDS.length)]);
-        text.append(" from ").append(from).append(" to ").append(to).append(" place ").append(below(100));
+        text.append(" from ").append(from).append(" to ").append(to).append(" place ").append(anyPlace());
         text.append(" water");
         for (int s = 0; s < 4; s++) {
             text.append(' ').append(below(wet + 1));
         }
-        if (oneIn(3)) {
-            text.append(" mill ").append(between(1, oneIn(2) ? 10 : 80)).append(" at ").append(between(to, from));
+        if (oneIn(easy ? 6 : 3)) {
+            int at = oneIn(2) ? to : between(to, from);
+            text.append(" mill ").append(between(1, oneIn(2) ? 12 : 80)).append(" at ").append(at);
         }
-        if (oneIn(2)) {
-            text.append(" town ").append(below(oneIn(3) ? 40 : 150)).append(" at ").append(between(to, from));
+        if (oneIn(easy ? 4 : 2)) {
+            int at = oneIn(2) ? to : between(to, from);
+            text.append(" town ").append(below(oneIn(3) ? 40 : 3 * wet)).append(" at ").append(at);
         }
         if (number > 0 && oneIn(3)) {
             text.append(" of ").append(NAMES[below(number) + firstName]);
@@ -170,22 +189,30 @@ final class RandomRunsTest {
         return text.append(oneIn(5) ? "\n;\n" : " ; ").toString();
     }
 
+    /** Places of a coarse country often lie right at a range. */
+    private int anyPlace() {
+        return coarse ? 20 * below(5) : below(100);
+    }
+
     private String rangeText() {
-        return "range " + below(100) + " thick " + between(1, oneIn(3) ? 99 : 20) + " ; ";
+        return "range " + anyPlace() + " thick " + between(1, oneIn(3) ? 99 : 20) + " ; ";
     }
 
     private String expression(int depth, boolean dowry) {
         int parts = 1 + below(3);
         StringBuilder text = new StringBuilder(piece(depth, dowry));
+        boolean compared = false;
         for (int i = 1; i < parts; i++) {
-            String[] signs = {"+", "-", "*", "+", "-", "<", "=", "and", "or"};
-            text.append(' ').append(signs[below(signs.length)]).append(' ').append(piece(depth, dowry));
+            String[] signs = {"+", "-", "*", "+", "-", "and", "or", "<", "="};
+            String sign = signs[below(compared && !oneIn(20) ? 7 : signs.length)];
+            compared = sign.matches("[<=]") || compared && !sign.matches("and|or");
+            text.append(' ').append(sign).append(' ').append(piece(depth, dowry));
         }
         return text.toString();
     }
 
     private String piece(int depth, boolean dowry) {
-        switch (below(depth > 5 ? 4 : 6)) {
+        switch (below(depth > (oneIn(8) ? 5 : 4) ? 4 : 6)) {
             case 0:
                 return "flow";
             case 1:
@@ -205,15 +232,23 @@ final class RandomRunsTest {
         StringBuilder text = new StringBuilder();
         int lines = oneIn(8) ? between(23, 26) : below(12);
         for (int i = 0; i < lines; i++) {
-            String one = NAMES[below(7)];
-            String other = NAMES[below(7)];
-            switch (below(3)) {
+            String one = anyName();
+            String other = anyName();
+            switch (below(5)) {
                 case 0 -> text.append("season ; ");
-                case 1 -> text.append("wed ").append(one).append(' ').append(other).append(" ; ");
-                default -> text.append(oneIn(3) ? "part " + one + " ; " : "wed a bb ; ");
+                case 1 -> text.append("part ").append(one).append(" ; ");
+                default -> {
+                    if (!one.equals(other) || oneIn(20)) {
+                        text.append("wed ").append(one).append(' ').append(other).append(" ; ");
+                    }
+                }
             }
         }
         return spoiled(text.toString());
+    }
+
+    private String anyName() {
+        return NAMES[oneIn(40) ? below(8) : firstName + below(Math.max(1, due.count(0)))];
     }
 
     private String willText() {
@@ -240,15 +275,21 @@ final class RandomRunsTest {
     // ---- calls
 
     private int anyRiver() {
-        return oneIn(12) ? between(-2, 7) : below(Math.max(1, due.count(0)));
+        return oneIn(12) ? anything(-2, 7) : below(Math.max(1, due.count(0)));
     }
 
     private int anySeason() {
-        return oneIn(12) ? between(-1, 4) : below(4);
+        return oneIn(12) ? anything(-1, 4) : below(4);
     }
 
     private int anyWhat(int most) {
-        return oneIn(12) ? between(-3, most + 2) : below(most + 1);
+        return oneIn(12) ? anything(-3, most + 2) : below(most + 1);
+    }
+
+    /** Mostly what lies right beside the bounds, else any number there is. */
+    private int anything(int least, int most) {
+        int[] wild = {Integer.MIN_VALUE, Integer.MAX_VALUE, random.nextInt()};
+        return oneIn(4) ? wild[below(3)] : between(least, most);
     }
 
     private void deed() {
@@ -257,23 +298,39 @@ final class RandomRunsTest {
         int s = anySeason();
         boolean back = oneIn(2);
         switch (below(10)) {
-            case 0, 1, 2, 3 -> same("wed(" + r + ", " + o + ")", is.wed(r, o), due.wed(r, o));
-            case 4 -> same("part(" + r + ")", is.part(r) ? 1 : 0, due.part(r) ? 1 : 0);
-            case 5 -> {
-                int many = oneIn(4) ? between(-1, 102) : between(1, 6);
+            case 0 -> same("wed(" + r + ", " + o + ")", is.wed(r, o), due.wed(r, o));
+            case 1, 2, 3, 4 -> {
+                int man = oneOf(due.may(r));
+                same("wed(" + r + ", " + man + ")", is.wed(r, man), due.wed(r, man));
+            }
+            case 5 -> same("part(" + r + ")", is.part(r) ? 1 : 0, due.part(r) ? 1 : 0);
+            case 6 -> {
+                int many = oneIn(4) ? anything(-1, 102) : between(1, 6);
                 same("seasons(" + many + ")", is.seasons(many), due.seasons(many));
             }
-            case 6 -> same("undo()", is.undo() ? 1 : 0, due.undo() ? 1 : 0);
-            case 7 -> {
-                int m = oneIn(8) ? between(-1, 5) : below(4);
+            case 7 -> same("undo()", is.undo() ? 1 : 0, due.undo() ? 1 : 0);
+            case 8 -> {
+                int m = oneIn(8) ? anything(-1, 5) : below(4);
                 same("mark(" + m + ", " + back + ")", is.mark(m, back) ? 1 : 0, due.mark(m, back) ? 1 : 0);
             }
             default -> {
-                int told = oneIn(8) ? between(-1, 10001) : Math.max(0, due.flow(r, safe(r, 2), s));
+                int told = oneIn(8) ? anything(-1, 10001) : Math.max(0, due.flow(r, safe(r, 2), s));
                 same("tell(" + r + ", " + s + ", " + told + ")", is.tell(r, s, told) ? 1 : 0,
                         due.tell(r, s, told) ? 1 : 0);
             }
         }
+    }
+
+    /** One of the bits of a set, NONE of an empty one. */
+    private int oneOf(int set) {
+        if (set <= 0) {
+            return Plain.NONE;
+        }
+        int bit = below(6);
+        while ((set >> bit & 1) == 0) {
+            bit = (bit + 1) % 6;
+        }
+        return bit;
     }
 
     private int safe(int river, int what) {
@@ -300,7 +357,7 @@ final class RandomRunsTest {
                 same("river(" + r + ", " + w + ")", caught(true, r, w, true), caught(false, r, w, true));
             }
             case 1 -> {
-                int h = oneIn(3) ? between(-2, 101) : between(safe(r, 2), Math.max(safe(r, 1), safe(r, 2)));
+                int h = oneIn(3) ? anything(-2, 101) : between(safe(r, 2), Math.max(safe(r, 1), safe(r, 2)));
                 same("flow(" + r + ", " + h + ", " + s + ")", is.flow(r, h, s), due.flow(r, h, s));
             }
             case 2 -> {
@@ -323,8 +380,11 @@ final class RandomRunsTest {
                 same("match(" + w + ")", is.match(w), due.match(w));
             }
             default -> {
-                w = anyWhat(6);
-                same("chain(" + r + ", " + o + ", " + w + ")", is.chain(r, o, w), due.chain(r, o, w));
+                w = oneIn(3) ? anyWhat(6) : below(4);
+                boolean down = safe(r, 2) >= safe(o, 2);
+                int low = down ? o : r;
+                int high = down ? r : o;
+                same("chain(" + high + ", " + low + ", " + w + ")", is.chain(high, low, w), due.chain(high, low, w));
             }
         }
     }
@@ -345,7 +405,7 @@ final class RandomRunsTest {
             }
             case 18 -> same("storms(" + r + ", " + s + ")", is.storms(r, s), due.storms(r, s));
             case 19 -> {
-                w = oneIn(3) ? between(-1, 1000001) : oneIn(2) ? Math.max(0, due.storms(r, s)) : 1000 * below(1001);
+                w = oneIn(3) ? anything(-1, 1000001) : oneIn(2) ? Math.max(0, due.storms(r, s)) : 1000 * below(1001);
                 same("walls(" + r + ", " + s + ", " + w + ")", is.walls(r, s, w), due.walls(r, s, w));
             }
             case 20, 21 -> {
@@ -353,9 +413,12 @@ final class RandomRunsTest {
                 same("found(" + w + ")", is.found(w), due.found(w));
             }
             case 22 -> {
-                w = between(-2, 4);
-                same("rests(" + r + ", " + o + ", " + p + ", " + w + ")", is.rests(r, o, p, w),
-                        due.rests(r, o, p, w));
+                w = oneIn(10) ? anything(-2, 4) : between(-1, 3);
+                int men = due.may(r);
+                int a = oneIn(8) ? o : oneOf(men);
+                int b = oneIn(8) ? p : oneOf(men <= 0 || a < 0 || a > 5 ? men : men & ~(1 << a));
+                same("rests(" + r + ", " + a + ", " + b + ", " + w + ")", is.rests(r, a, b, w),
+                        due.rests(r, a, b, w));
             }
             case 23 -> {
                 w = anyWhat(1);
@@ -363,8 +426,8 @@ final class RandomRunsTest {
             }
             case 24 -> {
                 w = anyWhat(2);
-                int seed = oneIn(8) ? between(-2, 10001) : below(10000);
-                int many = oneIn(8) ? between(-1, 102) : between(1, 100);
+                int seed = oneIn(8) ? anything(-2, 10001) : below(10000);
+                int many = oneIn(8) ? anything(-1, 102) : between(1, 100);
                 same("centuries(" + seed + ", " + many + ", " + w + ")", is.centuries(seed, many, w),
                         due.centuries(seed, many, w));
             }
