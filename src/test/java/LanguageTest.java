@@ -2,6 +2,8 @@
 final class LanguageTest {
     private static final Saying SAY = new Saying();
     private static final String AA = "river aa brook from 9 to 2 place 1 water 1 2 3 4 ; ";
+    private static final String TOWN = "river t brook from 9 to 5 place 1 water 1 2 3 4 town 5 at 5 ; "
+            + "river u brook from 9 to 5 place 5 water 1 2 3 4 ; ";
     private static final String BB = "river bb salt from 9 to 0 place 5 water 1 1 1 1 ; ";
 
     private LanguageTest() { }
@@ -52,6 +54,18 @@ final class LanguageTest {
         SAY.due("feed over the end", x.feed(0x2020202020202020L, 0, 0), 1000);
         // The 985th sign is the first a, and of the word eight letters are on the tape.
         SAY.due("land of blanks and a long word", x.land(), 1 + 16 * 992);
+        for (int i = 0; i < 42; i++) {
+            x.feed(0x3B3B3B3B3B3B3B3BL, 0x3B3B3B3B3B3B3B3BL, 0x3B3B3B3B3B3B3B3BL);
+        }
+        SAY.due("a thousand tokens", x.count(9), 1000);
+        SAY.due("land of a thousand tokens", x.land(), 1);
+        Saying.feed(x, "silt 1" + "+1".repeat(496) + ";;");
+        SAY.due("a full tape", x.count(9), 1000);
+        SAY.due("land of a full tape", x.land(), 1 + 16 * 999);
+        Saying.feed(x, AA + "silt 1" + "+1".repeat(60) + "; dowry 1" + "*1".repeat(400) + ";");
+        SAY.due("land of long E", x.land(), 0);
+        x.seasons(1);
+        SAY.due("silt of 61", x.river(0, 7), 61);
         SAY.due("feed on the empty tape", x.feed(0x2020202020202020L, 0, 0), 8);
     }
 
@@ -296,6 +310,28 @@ final class LanguageTest {
         SAY.due("husband in a new land", x.river(0, 5), -1);
         SAY.due("undo in a new land", x.undo(), false);
         SAY.due("a mark in a new land", x.mark(2, true), false);
+        String full = TOWN + "storm 10 by 99 ; range 3 thick 5 ; kin 4 ; silt 9 ; dowry 9 ;";
+        for (int i = 0; i < 3; i++) {
+            SAY.due("a full land", Saying.land(x, full), 0);
+        }
+        for (int i = 0; i < 3; i++) {
+            SAY.due("a bare land", Saying.land(x, TOWN), 0);
+            SAY.due("no storm of a land before", x.worst(0, 1), -1);
+            SAY.due("no storm of a land before", x.storms(0, 3), 0);
+            SAY.due("no range of a land before", x.count(1), 0);
+            SAY.due("no kin of a land before", x.count(7), 0);
+            SAY.due("no mother, mill of a land before", x.river(1, 4), -1);
+            SAY.due("no dowry of a land before", x.wed(0, 1), 1);
+            SAY.due("no silt of a land before", x.seasons(1) + x.river(0, 7), 1);
+        }
+        String fuller = TOWN.replace("1 2 3 4 ;", "1 2 3 4 mill 99 at 5 town 0 at 5 of t ;");
+        Saying.land(x, fuller);
+        Saying.land(x, fuller);
+        SAY.due("dry and flooded", x.needs(0) + x.needs(1), 4);
+        Saying.land(x, TOWN);
+        SAY.due("no mill of a land before", x.needs(0), 0);
+        SAY.due("no town of a land before", x.needs(1), 0);
+        SAY.due("no mother of a land before", x.river(1, 4), -1);
         SAY.due("an empty land", Saying.land(x, ""), 0);
         SAY.due("count(0) of an empty land", x.count(0), 0);
     }

@@ -402,6 +402,11 @@ final class PromisesTest {
         SAY.due("just 400", SAY.told(slow + "range 6 thick 1 ;").worn(0, 1), 400);
         SAY.due("over 400", SAY.told(slow + "range 6 thick 2 ;").worn(0, 1), -1);
         SAY.due("396", SAY.told(slow).worn(0, 1), 396);
+        SAY.due("love of just 400", SAY.told(slow + "range 6 thick 1 ;").love(0), 1);
+        SAY.due("love over 400", SAY.told(slow + "range 6 thick 2 ;").love(0), -1);
+        String early = brook("a", 9, 1, 1, "10 0 0 0") + brook("b", 9, 1, 9, "0 9 9 9") + "range 5 thick 99 ; ";
+        SAY.due("just 397", SAY.told(early + "range 6 thick 1 ;").worn(0, 1), 397);
+        SAY.due("401 is too long", SAY.told(early + "range 6 thick 2 ;").worn(0, 1), -1);
         RiverVows late = SAY.told(slow.replace("99 ;", "1 ;"));
         late.seasons(2);
         SAY.due("from this season on", late.worn(0, 1), 2);
@@ -553,6 +558,12 @@ final class PromisesTest {
         y.wed(2, 1);
         SAY.due("both", y.peace(), 5);
         SAY.due("nothing is done", y.count(3), 2);
+        RiverVows z = SAY.told(brook("a", 20, 10, 0, "5 5 5 5") + brook("b", 20, 10, 0, "5 5 5 5")
+                + brook("c", 20, 10, 0, "10 9 9 9") + kind("d", "brook", 30, 0, 10, "3 3 3 3") + "town 13 at 0 ; ");
+        z.wed(0, 3);
+        z.wed(1, 3);
+        z.wed(2, 3);
+        SAY.due("the fewest, though two are the less set", z.peace(), 4);
         SAY.due("peace of none", new RiverVows().peace(), 0);
     }
 
@@ -699,6 +710,17 @@ final class PromisesTest {
         RiverVows y = SAY.told(kind("a", "brook", 20, 10, 0, "0 9 4 9") + "town 5 at 12 ; ");
         SAY.due("nothing flows", y.walls(0, 0, 0), 0);
         SAY.due("without storms", y.walls(0, 1, 0), 9);
+        StringBuilder six = new StringBuilder(kind("ra", "brook", 20, 10, 0, "1 1 1 1") + "town 6 at 10 ; ");
+        for (int i = 1; i < 6; i++) {
+            six.append(brook("r" + (char) ('a' + i), 20, 10, 10 * i, "1 1 1 1"));
+        }
+        RiverVows z = SAY.told(six + "storm 1 by 99 ;");
+        for (int i = 1; i < 6; i++) {
+            z.wed(i, 0);
+        }
+        SAY.due("six storms", z.walls(0, 0, 0), 6 + 6 * 99);
+        SAY.due("but for one chance in a million", z.walls(0, 0, 1), 6 + 5 * 99);
+        SAY.due("any of six", z.storms(0, 0), 1000000 - 531441);
     }
 
     private static void tell() {
@@ -826,6 +848,7 @@ final class PromisesTest {
         // Seed 13 draws 0, a drought: 3 is less than 4.
         SAY.due("a drought: dry", x.centuries(13, 1, 0), 1);
         SAY.due("a drought: flooded", x.centuries(13, 1, 1), 0);
+        SAY.due("seed 0 draws 0 as well", x.centuries(0, 1, 0), 1);
         // Seed 70 draws 1, 0 and 1: a weds b, and 10 flow by the town.
         SAY.due("an elopement: weddings", x.centuries(70, 1, 2), 1);
         SAY.due("an elopement: flooded", x.centuries(70, 1, 1), 1);
