@@ -1382,8 +1382,7 @@ public final class RiverVows {
         }
 
         int readWill() {
-            fault = 0;
-            scan.begin();
+            begin(land);
             heirs = 0;
             for (int i = 0; i <= MOST_HEIRS && goesOn(); i++) {
                 if (heirLine()) {
