@@ -1,9 +1,22 @@
 import java.nio.charset.StandardCharsets;
+import java.util.ArrayList;
+import java.util.List;
 
 /** Feeds texts to a program and counts what is not as due. */
 final class Saying {
+    /** The section of the document that a quote stands in (0: the terms) and the quote, by turns. */
+    final List<Integer> sections = new ArrayList<>();
+    final List<String> quotes = new ArrayList<>();
+    private String quote = "";
     private int right = 0;
     private int wrong = 0;
+
+    /** What follows holds these words of a promise (0: of the terms). */
+    void says(int promise, String words) {
+        sections.add(promise);
+        quotes.add(words);
+        quote = "[" + words + "] ";
+    }
 
     /** A new program with the land told, which must be without a fault. */
     RiverVows told(String land) {
@@ -43,12 +56,20 @@ final class Saying {
             right++;
         } else {
             wrong++;
-            System.out.println(call + " answered " + got + ", due is " + want);
+            System.out.println(quote + call + " answered " + got + ", due is " + want);
         }
     }
 
     void due(String call, boolean got, boolean want) {
         due(call, got ? 1 : 0, want ? 1 : 0);
+    }
+
+    /** Both texts are what many calls answered. */
+    void due(String call, String got, String want) {
+        if (!got.equals(want)) {
+            System.out.println("got  " + got + "\nwant " + want);
+        }
+        due(call, got.equals(want), true);
     }
 
     void end(String name) {
