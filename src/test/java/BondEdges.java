@@ -348,6 +348,11 @@ final class BondEdges {
             y.seasons(2);
             say.due("silt of " + one[0] + " three times", y.river(1, 7), 3 * one[1]);
         }
+        RiverVows six = say.told(line(6) + "silt flow ;");
+        six.wed(4, 5);
+        six.seasons(3);
+        say.due("silt of the first of six", six.river(0, 7), 3);
+        say.due("silt of the last of six", six.river(5, 7), 6);
         say.says(0, "(behind the fourth the first again).");
         RiverVows z = say.told(Texts.river("a", "brook", 20, 10, 0, "7 6 5 4", "mill 7 at 10 town 4 at 10"));
         int[][] needs = {{0, 1}, {1, 1}, {1, 1}, {1, 0}, {0, 1}, {1, 1}};
@@ -472,6 +477,11 @@ final class BondEdges {
         RiverVows six = say.told(line(6));
         say.due("the sixth", six.river(5, 4), 4);
         throwsRiver(six, 6, 0);
+        for (int r = 0; r < 5; r++) {
+            six.wed(r, 5);
+            say.due("wives of the sixth", six.river(5, 6), (2 << r) - 1);
+        }
+        say.due("no wives of the first", six.river(0, 6), 0);
     }
 
     private void flowArguments() {

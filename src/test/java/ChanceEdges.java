@@ -368,6 +368,9 @@ final class ChanceEdges {
                 + Texts.brook("c", 60, 0, 0, "4 4 4 4"));
         say.due("four ways", most.found(0), 4);
         say.due("c, in the second season", most.found(1), 9);
+        RiverVows first = say.told(Texts.even("a", 50, 20, 1, "") + Texts.even("b", 50, 20, 1, ""));
+        // Three ways: at a's mouth 1, 1, 2, at b's 1, 2, 1
+        say.due("of equal ones the first", first.found(1), 0);
         RiverVows last = say.told(TWO);
         last.tell(1, 0, 10);
         say.due("one way is left", last.found(0), 1);
@@ -594,6 +597,17 @@ final class ChanceEdges {
         RiverVows halves = say.told(Texts.even("a", 50, 20, 1, "") + Texts.even("b", 50, 20, 3, "mill 2 at 20"));
         halves.wed(0, 1);
         say.due("each one's water is half: 0 and 1", halves.centuries(0, 1, 0), 1);
+        // 8, 6 and 5: 4, 3 and 2 in a drought
+        for (int edge = 8; edge <= 10; edge++) {
+            RiverVows three = say.told(Texts.even("a", 50, 20, 8, "") + Texts.even("b", 50, 20, 6, "")
+                    + Texts.even("c", 50, 20, 5, "mill " + edge + " at 20 town " + edge + " at 20"));
+            three.wed(0, 1);
+            three.wed(1, 2);
+            say.due("9 where " + edge + " are wanted", three.centuries(0, 1, 0), edge > 9 ? 1 : 0);
+            say.due("9 where " + edge + " are held", three.centuries(0, 1, 1), edge < 9 ? 1 : 0);
+            three.seasons(1);
+            say.due("in the second season, too", three.centuries(0, 1, 0), edge > 9 ? 1 : 0);
+        }
         say.says(0, "1 an elopement: two DRAWS below the RIVERS: the first WEDS the second if it may");
         RiverVows two = say.told(TWO);
         say.due("a weds b", two.centuries(70, 1, 2), 1);
@@ -683,6 +697,28 @@ final class ChanceEdges {
         say.due("a deed behind it can be undone", x.part(0), true);
         say.due("a deed behind it can be undone", x.count(8), 1);
         marksAgain();
+        marksOfTold();
+    }
+
+    private void marksOfTold() {
+        RiverVows x = say.told(TWO);
+        x.mark(0, false);
+        x.tell(1, 0, 10);
+        say.due("a flows into b", x.found(2), 1);
+        x.mark(1, false);
+        x.mark(0, true);
+        say.due("nothing is TOLD", x.count(6), 0);
+        say.due("nothing is TOLD", x.found(0), 2);
+        x.tell(1, 3, 3);
+        say.due("a flows alone", x.found(2), -1);
+        x.mark(2, false);
+        x.mark(0, true);
+        x.tell(0, 3, 0);
+        say.due("never so", x.found(0), 0);
+        say.due("back to the first", x.mark(1, true), true);
+        say.due("a flows into b", x.found(2), 1);
+        say.due("back to the second", x.mark(2, true), true);
+        say.due("a flows alone", x.found(2), -1);
     }
 
     private void marksAgain() {

@@ -133,6 +133,9 @@ final class TextEdges {
         say.due("the 1001st is not", Saying.land(fresh(), "kin 9" + " ".repeat(995) + ";"), 1 + 16 * 1000);
         say.due("a wrong 1000th", Saying.land(fresh(), " ".repeat(999) + "!"), 1 + 16 * 999);
         say.due("a wrong 1001st", Saying.land(fresh(), " ".repeat(1000) + "!"), 0);
+        say.due("a thousand tokens", Saying.land(fresh(), ";".repeat(1000)), 1);
+        say.due("a thousand tokens as vows", Saying.vows(fresh(), ";".repeat(1001)), 1);
+        say.due("a thousand tokens as a will", Saying.will(fresh(), ";".repeat(1001)), 1);
         say.due("of nine letters eight fit", Saying.land(fresh(), AA + " ".repeat(992 - AA.length()) + "abcdefghi"),
                 1 + 16 * 992);
         say.due("of a number four digits fit", Saying.land(fresh(), " ".repeat(992) + "kin 00090 ;"), 1 + 16 * 1000);
@@ -305,6 +308,8 @@ final class TextEdges {
         bounds("river a brook from 9 to 2 place 1 water 1 2 3 # ;", 0, 99);
         landFault(1, "river a brook from 9 to 2 place 1 water 1 2 3 ^;");
         landFault(1, "river a brook from 9 to 2 place 1 water 1 2 3 4 ^5 ;");
+        landFault(1, "river a brook from 9 to 2 place 1 ^mill 1 at 2 ! ;");
+        landFault(1, "river a brook from 9 to 2 place 1 ^of a ;");
         RiverVows x = say.told("river a brook from 99 to 98 place 99 water 0 99 1 98 ; "
                 + "river b brook from 1 to 0 place 0 water 0 0 0 0 ;");
         int[] due = {0, 99, 1, 98};
@@ -655,6 +660,12 @@ final class TextEdges {
         RiverVows x = say.told("river a brook from 20 to 10 place 0 water 7 1 1 1 ; "
                 + "river b brook from 30 to 0 place 15 water 3 3 3 3 ;");
         say.due("without dowry", x.wed(0, 1), 1);
+        for (int i = 0; i < 6; i++) {
+            say.due("long ones", Saying.land(x, "dowry 7" + "+0".repeat(225) + ";silt 7" + "+0".repeat(225) + ";"), 0);
+        }
+        say.due("a land without them", Saying.land(x, "river a brook from 20 to 10 place 0 water 7 1 1 1 ; "
+                + "river b brook from 30 to 0 place 15 water 3 3 3 3 ;"), 0);
+        say.due("without dowry, behind long ones", x.wed(0, 1), 1);
         x.seasons(100);
         say.due("without silt", x.river(0, 7) + x.river(1, 7), 0);
     }
@@ -763,6 +774,17 @@ final class TextEdges {
         RiverVows bare = Snapshot.busy();
         say.due("an empty land", Saying.land(bare, ""), 0);
         say.due("all as in a new object", Snapshot.of(bare), Snapshot.of(fresh()));
+        RiverVows again = fresh();
+        String other = "river zz proud from 9 to 2 place 1 water 1 2 3 4 mill 1 at 2 town 1 at 2 ; range 1 thick 1 ; kin 5 ; "
+                + "storm 5 by 5 ; dowry 5 ; silt 5 ; ";
+        for (String text : new String[] {other, other + "!", other + ranges(4), other, Snapshot.LAND}) {
+            Saying.land(again, text);
+        }
+        say.due("nothing of lands and faults before", Snapshot.of(again), Snapshot.of(first));
+        Saying.land(again, other);
+        Saying.land(again, "!");
+        Saying.land(again, "");
+        say.due("nothing of lands and faults before", Snapshot.of(again), Snapshot.of(fresh()));
         say.says(0, "VOWS, a WILL are these.");
         RiverVows y = say.told(AA + BB);
         Saying.vows(y, "season ; season ; season ;");

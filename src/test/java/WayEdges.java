@@ -329,6 +329,12 @@ final class WayEdges {
         x.wed(0, 1);
         x.wed(2, 3);
         say.due("who is wed now does not count", x.chain(0, 5, 1), 5);
+        String back = Texts.brook("z", 45, 10, 0, "1 1 1 1") + Texts.brook("y", 55, 40, 10, "1 1 1 1")
+                + Texts.brook("x", 65, 50, 20, "1 1 1 1");
+        RiverVows down = say.told(back);
+        say.due("from the last to the first told", down.chain(2, 0, 0), 20);
+        say.due("from the last to the first told", down.chain(2, 0, 1), 2);
+        say.due("from the last to the first told", down.chain(2, 0, 4), 0);
         RiverVows salt = say.told(stairs().replaceFirst("rd brook", "rd salt"));
         say.due("not by salt", salt.chain(0, 5, 0), -1);
         say.due("up to it", salt.chain(0, 2, 0), 20);
@@ -417,6 +423,13 @@ final class WayEdges {
         say.due("in this season", season.peace(), 1);
         season.seasons(1);
         say.due("in this season", season.peace(), 0);
+        RiverVows six = say.told(alike(5) + Texts.even("rf", 50, 20, 1, "mill 1 at 20 town 1 at 20"));
+        for (int r = 0; r < 5; r++) {
+            six.wed(r, 5);
+        }
+        say.due("five part from the sixth", six.peace(), 31);
+        six.part(0);
+        say.due("four part from the sixth", six.peace(), 30);
         say.says(23, "PEACE, as bits; NONE: it can't be.");
         RiverVows alone = say.told(Texts.even("a", 50, 20, 5, "mill 6 at 20"));
         say.due("nobody can part", alone.peace(), -1);
@@ -443,6 +456,11 @@ final class WayEdges {
         clear.wed(0, 2);
         clear.wed(1, 3);
         say.due("a clear husband has his own alone there", clear.cathedral(0), 1);
+        RiverVows six = say.told(alike(6));
+        six.wed(5, 4);
+        say.due("the last of six", six.cathedral(0), 5);
+        six.wed(4, 0);
+        say.due("the last but one of six", six.cathedral(0), 4);
         say.says(24, "CATHEDRAL of a season; NONE: others, nobody is wed.");
         RiverVows y = say.told(land);
         say.due("nobody is wed", y.cathedral(0), -1);
