@@ -663,11 +663,21 @@ final class TextEdges {
         for (int i = 0; i < 6; i++) {
             say.due("long ones", Saying.land(x, "dowry 7" + "+0".repeat(225) + ";silt 7" + "+0".repeat(225) + ";"), 0);
         }
+        for (int i = 0; i < 100; i++) {
+            say.due("an empty land", x.land(), 0);
+        }
         say.due("a land without them", Saying.land(x, "river a brook from 20 to 10 place 0 water 7 1 1 1 ; "
                 + "river b brook from 30 to 0 place 15 water 3 3 3 3 ;"), 0);
         say.due("without dowry, behind long ones", x.wed(0, 1), 1);
         x.seasons(100);
         say.due("without silt", x.river(0, 7) + x.river(1, 7), 0);
+        RiverVows y = say.told("silt 7 ;");
+        for (int i = 0; i < 100; i++) {
+            say.due("an empty land", x.land() + y.land(), 0);
+        }
+        Saying.land(y, "river a brook from 20 to 10 place 0 water 7 1 1 1 ; ");
+        y.seasons(1);
+        say.due("without silt, behind many lands", y.river(0, 7), 0);
     }
 
     // ---- faults

@@ -187,6 +187,13 @@ final class WayEdges {
         }
         x.part(2);
         say.due("without who parted", x.hyphen(5), 4 + 8 + 3 + 2);
+        for (int length = 1; length <= 8; length++) {
+            RiverVows alone = say.told(at("a".repeat(length), 0, 1) + at("z".repeat(length), 0, 1));
+            say.due("a so often", alone.hyphen(0), length);
+            say.due("z so often", alone.hyphen(1), length);
+            alone.wed(0, 1);
+            say.due("both", alone.hyphen(1), 2 * length + 1);
+        }
         RiverVows clear = say.told(at("aa", 0, 1) + Texts.river("ccc", "clear", 50, 20, 0, "1 1 1 1", "")
                 + Texts.brook("dddd", 50, 10, 0, "1 1 1 1"));
         clear.wed(0, 1);
